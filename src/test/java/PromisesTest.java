@@ -666,6 +666,14 @@ public final class PromisesTest {
         x.walk(1);
         x.poll(1);
         Check.due("isMore behind the end", x.isMore(), false);
+        for (int bag = 0; bag < 4; bag++) {
+            Leastbag y = new Leastbag();
+            y.add(bag, 0, 0);
+            y.walk(bag);
+            Check.due("isMore through bag " + bag, y.isMore(), true);
+            y.step();
+            Check.due("isMore behind all of bag " + bag, y.isMore(), false);
+        }
     }
 
     private static void walked() {
@@ -854,6 +862,15 @@ public final class PromisesTest {
         x.add(2, 7, 5);
         Check.due("areAlike of as many, others twice", x.areAlike(1, 2), false);
         Check.due("areAlike the other way", x.areAlike(2, 1), false);
+        x.make(2, 0, 1);
+        x.addAll(2, 1);
+        x.remove(2, 7, 5);
+        x.add(2, 8, 5);
+        Check.due("areAlike but for the first one", x.areAlike(1, 2), false);
+        x.makeLike(2, 1);
+        x.remove(2, 40, 2);
+        x.add(2, 41, 2);
+        Check.due("areAlike but for the last one", x.areAlike(1, 2), false);
         noSuchBag("areAlike", x, bag -> x.areAlike(bag, 1));
         noSuchBag("areAlike with", x, bag -> x.areAlike(1, bag));
     }
@@ -969,5 +986,54 @@ public final class PromisesTest {
         Check.due("digest again", x.digest(), d);
         x.knock();
         Check.due("digest behind a knock is another", x.digest() == d, false);
+        digestOfMore();
+    }
+
+    private static void digestOfMore() {
+        Leastbag x = some();
+        x.make(2, 3, 1);
+        x.fill(2, 30, 7, 31);
+        x.lay(88, 4);
+        x.lay(3, 0);
+        x.setOrder(1);
+        x.join(5, 5);
+        x.join(61, 1);
+        x.knock();
+        x.untimely(0);
+        x.walk(1);
+        for (int left = 3; left >= 0; left--) {
+            Check.due("digest with a walk that has " + left + " left", x.digest(), digestByOtherCalls(x, 2));
+            x.step();
+        }
+    }
+
+    private static long digestByOtherCalls(Leastbag x, int laid) {
+        long d = 7734;
+        for (int what = 0; what <= 5; what++) {
+            d = d * 31 + x.house(what);
+        }
+        for (int bag = 0; bag < 4; bag++) {
+            d = d * 31 + x.size(bag);
+            d = d * 31 + x.orderOf(bag);
+            d = signs(signs(d, x.peek(bag)), x.sorted(bag));
+            for (int kind = 0; kind <= 9; kind++) {
+                d = d * 31 + x.total(bag, kind, false);
+                d = d * 31 + x.total(bag, kind, true);
+            }
+        }
+        for (int k = 0; k < laid; k++) {
+            d = signs(d, x.list(k));
+        }
+        d = signs(d, x.set());
+        d = d * 31 + (x.isMore() ? 1 : 0);
+        return d * 31 + (x.isSound() ? 1 : 0);
+    }
+
+    private static long signs(long d, String text) {
+        long mix = d;
+        for (int k = 0; k < text.length(); k++) {
+            mix = mix * 31 + text.charAt(k);
+        }
+        return mix;
     }
 }
