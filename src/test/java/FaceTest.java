@@ -79,8 +79,7 @@ public final class FaceTest {
         }
         for (Class<?> inside : face.getDeclaredClasses()) {
             int modifiers = inside.getModifiers();
-            Check.due(inside.getName() + " is hidden and static",
-                    Modifier.isStatic(modifiers) && !Modifier.isPublic(modifiers) && !Modifier.isProtected(modifiers), true);
+            Check.due(inside.getName() + " is hidden", !Modifier.isPublic(modifiers) && !Modifier.isProtected(modifiers), true);
         }
     }
 }
