@@ -587,8 +587,13 @@ public final class Leastbag {
         return text.toString();
     }
 
+    /** Sign by sign, for a number that is appended whole may be made a text of its own first. */
     private void writeThing(int thing) {
-        text.append(weightOf(thing));
+        int weight = weightOf(thing);
+        if (weight >= 10) {
+            text.append((char) ('0' + weight / 10));
+        }
+        text.append((char) ('0' + weight % 10));
         text.append((char) ('a' + letterOf(thing)));
     }
 

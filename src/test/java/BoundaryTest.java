@@ -913,49 +913,21 @@ public final class BoundaryTest {
 
     private static void digest() {
         for (Edge.State state : Edge.STATES) {
-            Edge.asks("47 digest: nothing is changed", state, byOtherCalls(state.made()), Leastbag::digest);
+            Edge.asks("47 digest: nothing is changed", state, Edge.digestByOtherCalls(state.made()), Leastbag::digest);
         }
         for (int many : new int[] {0, 1, 60}) {
             for (int left : new int[] {0, 1, many}) {
                 Edge.asks("47 digest: of " + many + " with a walk", () -> walkedOver(many, many - left),
-                        byOtherCalls(walkedOver(many, many - left)), Leastbag::digest);
+                        Edge.digestByOtherCalls(walkedOver(many, many - left)), Leastbag::digest);
             }
-            Edge.asks("47 digest: of " + many + " without a walk", () -> unwalked(many), byOtherCalls(unwalked(many)),
+            Edge.asks("47 digest: of " + many + " without a walk", () -> unwalked(many), Edge.digestByOtherCalls(unwalked(many)),
                     Leastbag::digest);
         }
         for (int laid : new int[] {0, 1, 20}) {
-            Edge.asks("47 digest: the list of " + laid, () -> Edge.listed(1, laid), byOtherCalls(Edge.listed(1, laid)), Leastbag::digest);
-            Edge.asks("47 digest: the set of " + laid, () -> Edge.joined(laid), byOtherCalls(Edge.joined(laid)), Leastbag::digest);
+            Edge.asks("47 digest: the list of " + laid, () -> Edge.listed(1, laid),
+                    Edge.digestByOtherCalls(Edge.listed(1, laid)), Leastbag::digest);
+            Edge.asks("47 digest: the set of " + laid, () -> Edge.joined(laid),
+                    Edge.digestByOtherCalls(Edge.joined(laid)), Leastbag::digest);
         }
-    }
-
-    private static long byOtherCalls(Leastbag x) {
-        long d = 7734;
-        for (int what = 0; what <= 5; what++) {
-            d = d * 31 + x.house(what);
-        }
-        for (int bag = 0; bag < 4; bag++) {
-            d = d * 31 + x.size(bag);
-            d = d * 31 + x.orderOf(bag);
-            d = signs(signs(d, x.peek(bag)), x.sorted(bag));
-            for (int kind = 0; kind <= 9; kind++) {
-                d = d * 31 + x.total(bag, kind, false);
-                d = d * 31 + x.total(bag, kind, true);
-            }
-        }
-        for (int k = 0; k < x.house(1); k++) {
-            d = signs(d, x.list(k));
-        }
-        d = signs(d, x.set());
-        d = d * 31 + (x.isMore() ? 1 : 0);
-        return d * 31 + (x.isSound() ? 1 : 0);
-    }
-
-    private static long signs(long d, String text) {
-        long mix = d;
-        for (int k = 0; k < text.length(); k++) {
-            mix = mix * 31 + text.charAt(k);
-        }
-        return mix;
     }
 }

@@ -180,6 +180,37 @@ final class Edge {
         }
     }
 
+    /** The checksum as the document tells it, of what the other calls answer. */
+    static long digestByOtherCalls(Leastbag x) {
+        long d = 7734;
+        for (int what = 0; what <= 5; what++) {
+            d = d * 31 + x.house(what);
+        }
+        for (int bag = 0; bag < 4; bag++) {
+            d = d * 31 + x.size(bag);
+            d = d * 31 + x.orderOf(bag);
+            d = signs(signs(d, x.peek(bag)), x.sorted(bag));
+            for (int kind = 0; kind <= 9; kind++) {
+                d = d * 31 + x.total(bag, kind, false);
+                d = d * 31 + x.total(bag, kind, true);
+            }
+        }
+        for (int k = 0; k < x.house(1); k++) {
+            d = signs(d, x.list(k));
+        }
+        d = signs(d, x.set());
+        d = d * 31 + (x.isMore() ? 1 : 0);
+        return d * 31 + (x.isSound() ? 1 : 0);
+    }
+
+    private static long signs(long d, String text) {
+        long mix = d;
+        for (int k = 0; k < text.length(); k++) {
+            mix = mix * 31 + text.charAt(k);
+        }
+        return mix;
+    }
+
     /** The walk, if there is one, comes over the rest of its bag, as if nothing had been called. */
     private static void goesOn(String sentence, Leastbag x) {
         int bag = x.house(3);
